@@ -1,0 +1,57 @@
+import java.util.NoSuchElementException;
+
+/** Counts answers that are not as due, and ends a test by them. */
+final class Check {
+    private static int wrong = 0;
+    private static int asked = 0;
+    private static String part = "";
+
+    private Check() {
+    }
+
+    interface Call {
+        int answer();
+    }
+
+    /** What the answers to come belong to. */
+    static void part(String name) {
+        part = name;
+    }
+
+    static void due(String call, int got, int want) {
+        asked++;
+        if (got != want) {
+            tellWrong(call + " answered " + got + ", due is " + want);
+        }
+    }
+
+    static void due(String call, boolean got, boolean want) {
+        asked++;
+        if (got != want) {
+            tellWrong(call + " answered " + got + ", due is " + want);
+        }
+    }
+
+    static void dueNothingSuch(String call, Call made) {
+        asked++;
+        try {
+            tellWrong(call + " answered " + made.answer() + ", due is NoSuchElementException");
+        } catch (NoSuchElementException e) {
+            // as due
+        }
+    }
+
+    static void tellWrong(String what) {
+        wrong++;
+        System.out.println(part + ": " + what);
+    }
+
+    static void finish() {
+        if (wrong == 0 && asked > 0) {
+            System.out.println(asked + " answers are as due");
+        } else {
+            System.out.println(wrong + " of " + asked + " answers are not as due");
+            System.exit(1);
+        }
+    }
+}
