@@ -263,7 +263,7 @@ public final class PointTables {
         if (k < 0 || k >= Integer.bitCount(rim)) {
             throw new NoSuchElementException("no such point of the rim");
         }
-        int p = Integer.numberOfTrailingZeros(rim);
+        int p = Rims.leastOf(t, rim);
         for (int step = 0; step < k; step++) {
             p = Rims.nextTo(t, rim, p);
         }
@@ -648,8 +648,8 @@ public final class PointTables {
         }
 
         /**
-         * Of rising points: with FOUR's pattern written for each of the 24 orders of them, all
-         * say the same: the turns of the four threes, in the order of a ROW, alternate.
+         * Of rising points: FOUR asked for each of the 24 orders of them comes to one thing, that
+         * the turns of the four threes, in the order of a ROW, alternate.
          */
         private static boolean breaksFour(Table t, int a, int b, int c, int d) {
             boolean first = t.isLeft(a, b, c);
@@ -696,6 +696,16 @@ public final class PointTables {
     private static final class Rims {
         static boolean isIn(int set, int p) {
             return (set >> p & 1) == 1;
+        }
+
+        /** NONE of an empty set. */
+        static int leastOf(Table t, int set) {
+            for (int p = 0; p < t.size; p++) {
+                if (isIn(set, p)) {
+                    return p;
+                }
+            }
+            return NONE;
         }
 
         /** The point NEXT to i among the set; NONE, if i is not on its rim. */

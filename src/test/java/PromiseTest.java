@@ -91,7 +91,7 @@ public final class PromiseTest {
     }
 
     private static void dueTapeEmpty(PointTables x) {
-        Check.due("end(0), the tape being empty", x.end(0), true);
+        Check.due("end(1), the tape being empty", x.end(1), false);
         Check.due("feed() behind an empty tape", x.feed(0, 0, 0, 0, 0), 20);
         x.end(0);
     }
@@ -372,6 +372,7 @@ public final class PromiseTest {
         Check.due("rename(0, 0)", x.rename(0, 0), true);
         Check.due("the inner one of itself", x.layer(0, 3), 1);
         dueNotRenamed(x, 0, 0, 0, 1, 2, 3, 3);
+        dueNotRenamed(x, 0, 0, 1, 1, 2, 3, 4);
         dueNotRenamed(x, 0, 0, 0, 1, 2, 3);
         dueNotRenamed(x, 0, 0, 0, 1, 2, 3, 5);
         dueNotRenamed(x, 0, 0, 0, 1, 2, 3, 255);
@@ -401,8 +402,16 @@ public final class PromiseTest {
         Check.due("turn 0 1 3", x.turn(1, 0, 1, 3), x.turn(0, 0, 1, 4));
         Check.due("turn 1 2 3", x.turn(1, 1, 2, 3), x.turn(0, 1, 3, 4));
         Check.due("rim(1)", x.rim(1), 3);
-        Check.due("without(1, 0, 0)", x.without(1, 0, 0), true);
-        Check.due("turn 0 1 3", x.turn(1, 0, 1, 3), x.turn(0, 1, 2, 4));
+        for (int p = 0; p < 5; p++) {
+            Check.due("without(1, 0, " + p + ")", x.without(1, 0, p), true);
+            for (int i = 0; i < 4; i++) {
+                int was = i < p ? i : i + 1;
+                int next = (i + 1) % 4 < p ? (i + 1) % 4 : (i + 1) % 4 + 1;
+                int last = (i + 2) % 4 < p ? (i + 2) % 4 : (i + 2) % 4 + 1;
+                int turn = x.turn(1, i, (i + 1) % 4, (i + 2) % 4);
+                Check.due("turn without " + p + " from " + i, turn, x.turn(0, was, next, last));
+            }
+        }
         Check.due("without(1, 0, 5)", x.without(1, 0, 5), false);
         Check.due("without(1, 0, -1)", x.without(1, 0, -1), false);
         Check.due("without(1, 1, 0)", x.without(1, 1, 0), true);
@@ -738,6 +747,9 @@ public final class PromiseTest {
             Check.due("figures(0, " + m + ", false)", x.figures(0, m, false), NONE);
             Check.due("figures(0, " + m + ", true)", x.figures(0, m, true), NONE);
         }
+        put(x, 1, INNER_FIRST);
+        Check.due("figures(1, 4, false), the inner one first", x.figures(1, 4, false), 3);
+        Check.due("figures(1, 3, true), the inner one first", x.figures(1, 3, true), 8);
         put(x, 1, HEXAGON);
         Check.due("figures(1, 6, true)", x.figures(1, 6, true), 1);
         Check.due("figures(1, 5, false)", x.figures(1, 5, false), 6);
