@@ -18,16 +18,21 @@ final class Check {
         part = name;
     }
 
+    static int asked() {
+        return asked;
+    }
+
     static void due(String call, int got, int want) {
-        asked++;
-        if (got != want) {
-            tellWrong(call + " answered " + got + ", due is " + want);
-        }
+        due(call, String.valueOf(got), String.valueOf(want));
     }
 
     static void due(String call, boolean got, boolean want) {
+        due(call, String.valueOf(got), String.valueOf(want));
+    }
+
+    static void due(String call, String got, String want) {
         asked++;
-        if (got != want) {
+        if (!got.equals(want)) {
             tellWrong(call + " answered " + got + ", due is " + want);
         }
     }

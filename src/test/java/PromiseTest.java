@@ -1,19 +1,5 @@
 /** Each promise by itself: ordinary inputs, the edges that the document names, wrong inputs. */
-public final class PromiseTest {
-    private static final int NONE = -1;
-    private static final int[] WRONG_SLOTS = {-1, 6, 7, Integer.MIN_VALUE, Integer.MAX_VALUE};
-
-    /** A square with a point in it. */
-    private static final int[] SQUARE = {0, 0, 4, 0, 4, 4, 0, 4, 1, 2};
-    /** A square with a point in it that comes first, the others clockwise. */
-    private static final int[] INNER_FIRST = {1, 2, 0, 0, 0, 4, 4, 4, 4, 0};
-    private static final int[] TRIANGLE_FULL = {0, 0, 10, 0, 0, 10, 2, 3};
-    private static final int[] HEXAGON = {100, 0, 50, 87, -50, 88, -101, 1, -49, -86, 52, -85};
-    /** Three in three in three, the innermost being two. */
-    private static final int[] NESTED = {
-        -1000, -1000, 1000, -1000, 0, 1000, -200, -200, 200, -210, 3, 200, 10, -20, -15, 7
-    };
-
+public final class PromiseTest extends Bench {
     private PromiseTest() {
     }
 
@@ -48,68 +34,6 @@ public final class PromiseTest {
         which();
         points();
         Check.finish();
-    }
-
-    private static void tape(PointTables x, int... bytes) {
-        x.end(0);
-        for (int from = 0; from < bytes.length; from += 20) {
-            int[] five = new int[5];
-            for (int i = 0; i < 20; i++) {
-                five[i / 4] = five[i / 4] << 8 | (from + i < bytes.length ? bytes[from + i] & 255 : 0);
-            }
-            x.feed(five[0], five[1], five[2], five[3], five[4]);
-        }
-        x.end(bytes.length);
-    }
-
-    private static void tapePlaces(PointTables x, int... numbers) {
-        int[] bytes = new int[2 * numbers.length];
-        for (int i = 0; i < numbers.length; i++) {
-            bytes[2 * i] = numbers[i] >> 8;
-            bytes[2 * i + 1] = numbers[i];
-        }
-        tape(x, bytes);
-    }
-
-    private static int put(PointTables x, int s, int... numbers) {
-        tapePlaces(x, numbers);
-        return x.place(s);
-    }
-
-    private static PointTables with(int... numbers) {
-        PointTables x = new PointTables();
-        Check.due("place(0) of a test's own points", put(x, 0, numbers), 0);
-        return x;
-    }
-
-    /** A table by the bits of one number, the highest first. */
-    private static PointTables withBits(int n, int bits) {
-        PointTables x = new PointTables();
-        x.feed(bits, 0, 0, 0, 0);
-        Check.due("table(0, " + n + ") of a test's own bits", x.table(0, n), true);
-        return x;
-    }
-
-    private static void dueTapeEmpty(PointTables x) {
-        Check.due("end(1), the tape being empty", x.end(1), false);
-        Check.due("feed() behind an empty tape", x.feed(0, 0, 0, 0, 0), 20);
-        x.end(0);
-    }
-
-    private static void dueOut(PointTables x, int... bytes) {
-        for (int k = 0; k < bytes.length; k++) {
-            final int at = k;
-            Check.due("octet(" + k + ")", octetOr(x, at), bytes[k]);
-        }
-        Check.dueNothingSuch("octet() behind OUT", () -> x.octet(bytes.length));
-    }
-
-    private static int octetOr(PointTables x, int k) {
-        try {
-            return x.octet(k);
-        } catch (java.util.NoSuchElementException e) {
-            return -2;
-        }
     }
 
     private static void newObject() {
@@ -191,16 +115,9 @@ public final class PromiseTest {
             Check.due("place(" + s + ")", put(x, s, 0, 0, 1, 0, 0, 1), 1);
             dueTapeEmpty(x);
         }
-        int[] ten = new int[20];
-        int[] eleven = new int[22];
-        for (int i = 0; i < 11; i++) {
-            eleven[2 * i] = i;
-            eleven[2 * i + 1] = i * i;
-        }
-        System.arraycopy(eleven, 0, ten, 0, 20);
-        Check.due("eleven points", put(x, 5, eleven), 1);
+        Check.due("eleven points", put(x, 5, convex(11)), 1);
         Check.due("points(5) still", x.points(5), 0);
-        Check.due("ten points", put(x, 5, ten), 0);
+        Check.due("ten points", put(x, 5, convex(10)), 0);
         Check.due("points(5)", x.points(5), 10);
         Check.due("on a line", put(x, 0, 0, 0, 1, 1, 2, 2, 0, 5), 2);
         dueTapeEmpty(x);
@@ -521,8 +438,7 @@ public final class PromiseTest {
         for (int s : WRONG_SLOTS) {
             Check.due("layer(" + s + ", 0)", x.layer(s, 0), NONE);
         }
-        int[] deep = {-100, -100, 100, -101, 1, 100, -50, -51, 52, -50, 2, 51, -20, -21, 22, -19, 3, 20, 0, 1};
-        PointTables y = with(deep);
+        PointTables y = with(DEEP);
         Check.due("layer of the innermost of ten", y.layer(0, 9), 3);
         Check.due("layer of the third three", y.layer(0, 8), 2);
     }
@@ -552,12 +468,7 @@ public final class PromiseTest {
         x.mirror(4, 3);
         Check.due("code(4)", x.code(4), 20);
         dueOut(x, 1, 1, 1, 1, 1, 1, 1, 1, 1, 1, 1, 1, 1, 1, 1, 1, 1, 2, 2, 2);
-        int[] ten = new int[20];
-        for (int i = 0; i < 10; i++) {
-            ten[2 * i] = i;
-            ten[2 * i + 1] = i * i;
-        }
-        put(x, 5, ten);
+        put(x, 5, convex(10));
         Check.due("code(5) of ten", x.code(5), 120);
         Check.due("its last", x.octet(119), 1);
     }
@@ -645,29 +556,15 @@ public final class PromiseTest {
         dueSwept(x, 0, 0, false);
         dueSwept(x, 0, -2, false, 0, 1, 0);
         dueSwept(x, 0, Integer.MIN_VALUE, false);
-        int[] ten = new int[45];
-        int[] eleven = new int[55];
-        fillSweep(ten, 10);
-        fillSweep(eleven, 11);
-        dueSwept(x, 0, 11, false, eleven);
+        dueSwept(x, 0, 11, false, sweepOf(11));
         for (int s : WRONG_SLOTS) {
             dueSwept(x, s, 3, false, 0, 1, 0);
         }
         Check.due("points(0) stays", x.points(0), 3);
         Check.due("turn stays", x.turn(0, 0, 1, 2), -1);
-        dueSwept(x, 0, 10, true, ten);
+        dueSwept(x, 0, 10, true, sweepOf(10));
         Check.due("points(0)", x.points(0), 10);
         Check.due("rim(0)", x.rim(0), 10);
-    }
-
-    private static void fillSweep(int[] row, int n) {
-        int at = 0;
-        for (int length = n - 1; length > 0; length--) {
-            for (int q = 0; q < length; q++) {
-                row[at] = q;
-                at++;
-            }
-        }
     }
 
     private static void dueSwept(PointTables x, int s, int n, boolean want, int... bytes) {
@@ -702,9 +599,7 @@ public final class PromiseTest {
             Check.due("sweep(" + s + ")", x.sweep(s), NONE);
         }
         dueOut(x, 0, 2, 1, 0, 2, 1);
-        int[] ten = new int[45];
-        fillSweep(ten, 10);
-        tape(x, ten);
+        tape(x, sweepOf(10));
         x.swept(5, 10);
         Check.due("sweep(5) of ten", x.sweep(5), 45);
         Check.due("octet(0)", x.octet(0), 0);
@@ -755,12 +650,7 @@ public final class PromiseTest {
         Check.due("figures(1, 5, false)", x.figures(1, 5, false), 6);
         x.mirror(2, 1);
         Check.due("figures(2, 6, true) of the mirror", x.figures(2, 6, true), 1);
-        int[] ten = new int[20];
-        for (int i = 0; i < 10; i++) {
-            ten[2 * i] = i;
-            ten[2 * i + 1] = i * i;
-        }
-        put(x, 3, ten);
+        put(x, 3, convex(10));
         Check.due("figures(3, 5, true)", x.figures(3, 5, true), 252);
         Check.due("figures(3, 6, false)", x.figures(3, 6, false), 210);
         Check.due("figures(4, 3, false)", x.figures(4, 3, false), NONE);
