@@ -198,15 +198,15 @@ class Bench {
 
     /** All that can be asked of an object that has not too many points; the tape goes by it. */
     static String everything(PointTables x) {
-        StringBuilder all = new StringBuilder("line ").append(x.line());
-        all.append(", out ").append(outOf(x));
+        // First the tape's length: what is asked behind it throws where OUT ends.
+        StringBuilder all = new StringBuilder("tape of ").append(tapeLength(x));
+        all.append(", line ").append(x.line()).append(", out ").append(outOf(x));
         for (int s = 0; s < 6; s++) {
             all.append(", slot ").append(s).append(' ').append(rowOf(x, s));
         }
-        all.append(", tape of ").append(tapeLength(x)).append(' ');
         x.feed(0, 0, 0, 0, 0);
         x.table(5, 10);
-        return all.append(rowOf(x, 5)).toString();
+        return all.append(", the tape's bits ").append(rowOf(x, 5)).toString();
     }
 
     /** That a call leaves all as it was: one furnished object gets the call, another does not. */
