@@ -7,6 +7,7 @@ import java.nio.file.Files;
 import java.nio.file.Path;
 import java.util.Arrays;
 import java.util.HashSet;
+import java.util.List;
 import java.util.Set;
 import java.util.TreeSet;
 import java.util.regex.Matcher;
@@ -31,6 +32,12 @@ public final class FaceTest {
         "\\bSystem\\.(?!arraycopy)", "\\bRandom\\b", "\\bThread\\b", "\\bprotected\\b", "\\bMap\\b"
     };
 
+    private static final Set<String> LIBRARY = Set.of("Math.abs", "Math.min", "Integer.bitCount",
+            "Integer.compare", "System.arraycopy", "Arrays.fill");
+    private static final int MOST_CLASSES = 12;
+    private static final int MOST_FIELDS = 20;
+    private static final int MOST_LINES = 60;
+
     private FaceTest() {
     }
 
@@ -43,6 +50,8 @@ public final class FaceTest {
     private static void checkFace() {
         Check.part("the face");
         Class<?> c = PointTables.class;
+        int classes = c.getDeclaredClasses().length + 1;
+        Check.due(classes + " classes are too many", classes > MOST_CLASSES, false);
         Check.due("public and final", Modifier.isPublic(c.getModifiers()) && Modifier.isFinal(c.getModifiers()), true);
         Set<String> got = new TreeSet<>();
         Set<String> names = new HashSet<>();
@@ -59,16 +68,30 @@ public final class FaceTest {
             Check.due(inner + " is static", Modifier.isStatic(how), true);
             Check.due(inner + " is seen outside", Modifier.isPublic(how) || Modifier.isProtected(how), false);
             checkNames(inner, names);
+            checkFields(inner);
         }
         checkNames(c, names);
-        for (Constructor<?> made : c.getDeclaredConstructors()) {
-            Check.due("constructor's parameters", made.getParameterCount(), 0);
-        }
+        checkFields(c);
+        checkConstructor(c.getDeclaredConstructors());
         for (Field f : c.getDeclaredFields()) {
-            Check.due(f + " is private or NONE", Modifier.isPrivate(f.getModifiers()) || f.getName().equals("NONE"), true);
-            Check.due(f + " is final, if static", !Modifier.isStatic(f.getModifiers())
-                    || Modifier.isFinal(f.getModifiers()), true);
+            boolean isNone = f.toString().equals("public static final int PointTables.NONE");
+            Check.due(f + " is private or NONE", Modifier.isPrivate(f.getModifiers()) || isNone, true);
         }
+    }
+
+    private static void checkConstructor(Constructor<?>[] all) {
+        Check.due("constructors", all.length, 1);
+        Check.due("the constructor", all[0].toString(), "public PointTables()");
+    }
+
+    private static void checkFields(Class<?> c) {
+        int fields = 0;
+        for (Field f : c.getDeclaredFields()) {
+            boolean isStatic = Modifier.isStatic(f.getModifiers());
+            Check.due(f + " is final, if static", !isStatic || Modifier.isFinal(f.getModifiers()), true);
+            fields += isStatic ? 0 : 1;
+        }
+        Check.due(c + " has too many fields: " + fields, fields > MOST_FIELDS, false);
     }
 
     private static void checkNames(Class<?> c, Set<String> names) {
@@ -85,6 +108,8 @@ public final class FaceTest {
         for (String word : FORBIDDEN) {
             Check.due("has " + word, Pattern.compile(word).matcher(code).find(), false);
         }
+        checkLengths(source);
+        checkLibrary(code);
         Matcher imports = Pattern.compile("import ([^;]+);").matcher(code);
         while (imports.find()) {
             boolean listed = Set.of("java.util.Arrays", "java.util.NoSuchElementException").contains(imports.group(1));
@@ -93,6 +118,31 @@ public final class FaceTest {
         Matcher thrown = Pattern.compile("throw new (\\w+)").matcher(code);
         while (thrown.find()) {
             Check.due("throws " + thrown.group(1), thrown.group(1).equals("NoSuchElementException"), true);
+        }
+    }
+
+    /** What a line with a "(" opens, a method or a part of one, goes to the next "}" as far in. */
+    private static void checkLengths(String source) {
+        List<String> lines = source.lines().toList();
+        for (int from = 0; from < lines.size(); from++) {
+            String opens = lines.get(from);
+            if (opens.matches(" +\\w.*\\(.*\\{")) {
+                String closes = opens.replaceAll("\\w.*", "}");
+                int length = lines.subList(from, lines.size()).indexOf(closes) + 1;
+                Check.due(opens.trim() + " has " + length + " lines", length > 0 && length <= MOST_LINES, true);
+            }
+        }
+    }
+
+    private static void checkLibrary(String code) {
+        Set<String> own = new HashSet<>();
+        for (Class<?> inner : PointTables.class.getDeclaredClasses()) {
+            own.add(inner.getSimpleName());
+        }
+        Matcher calls = Pattern.compile("\\b([A-Z]\\w*)\\.\\w+(?=\\()").matcher(code);
+        while (calls.find()) {
+            boolean listed = own.contains(calls.group(1)) || LIBRARY.contains(calls.group());
+            Check.due(calls.group() + " is listed", listed, true);
         }
     }
 }

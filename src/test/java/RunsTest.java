@@ -1,6 +1,4 @@
-import java.lang.reflect.InvocationTargetException;
 import java.lang.reflect.Method;
-import java.lang.reflect.Modifier;
 import java.util.ArrayList;
 import java.util.Arrays;
 import java.util.Collections;
@@ -106,16 +104,9 @@ public final class RunsTest {
     }
 
     private void askAnything() {
-        Method[] all = PointTables.class.getDeclaredMethods();
-        List<String> names = new ArrayList<>();
-        for (Method m : all) {
-            if (Modifier.isPublic(m.getModifiers())) {
-                names.add(m.getName());
-            }
-        }
-        Collections.sort(names);
-        String name = names.get(dice.nextInt(names.size()));
-        Method m = method(PointTables.class, name);
+        List<Method> face = Calls.ofTheFace();
+        Method m = face.get(dice.nextInt(face.size()));
+        String name = m.getName();
         Object[] with = new Object[m.getParameterCount()];
         for (int i = 0; i < with.length; i++) {
             if (m.getParameterTypes()[i] == boolean.class) {
@@ -233,34 +224,13 @@ public final class RunsTest {
 
     private void call(String name, Object... with) {
         String told = name + Arrays.toString(with);
-        String got = answer(program, name, with);
-        String want = answer(oracle, name, with);
+        String got = Calls.answer(program, name, with);
+        String want = Calls.answer(oracle, name, with);
         calls.add(told + " " + got);
         Check.due(told, got.equals(want), true);
         if (!got.equals(want) && !failed) {
             failed = true;
             System.out.println("got " + got + ", due is " + want + ", behind " + calls);
         }
-    }
-
-    private static String answer(Object bench, String name, Object[] with) {
-        try {
-            Method m = method(bench.getClass(), name);
-            m.setAccessible(true);
-            return String.valueOf(m.invoke(bench, with));
-        } catch (InvocationTargetException e) {
-            return "throws " + e.getCause().getClass().getName();
-        } catch (IllegalAccessException e) {
-            throw new IllegalStateException(e);
-        }
-    }
-
-    private static Method method(Class<?> c, String name) {
-        for (Method m : c.getDeclaredMethods()) {
-            if (m.getName().equals(name) && Modifier.isPublic(m.getModifiers())) {
-                return m;
-            }
-        }
-        throw new IllegalStateException("no method " + name);
     }
 }
