@@ -1,4 +1,7 @@
-/** Every table of 3 to 6 points there is, held against the oracle: why(), and all else of lawful ones. */
+/**
+ * Every table of 3 to 6 points there is, held against the oracle: why() of each, and of those of at
+ * most 5 points and the lawful ones of 6 the other calls that ask of a table.
+ */
 public final class AllTablesTest {
     private static final int FEW = 5;
     private static final int MOST = 6;
